@@ -282,6 +282,7 @@ public final class LogicSmith {
             return BAD;
         }
         values.workOut(nets[net]);
+        turning.turn(nets[net], values, g);
         return turning.caredFor(nets[net], values, g);
     }
 
@@ -420,6 +421,7 @@ public final class LogicSmith {
 
     /** The first RULE that holds for a gate, or -1. */
     private int ruleFor(Net net, int g) {
+        turning.turn(net, values, g);
         int care = turning.caredFor(net, values, g);
         for (int rule = 0; rule < Shaping.RULE_TABLE.length; rule++) {
             if (((net.table[g] ^ Shaping.RULE_TABLE[rule]) & care) == 0) {
@@ -570,8 +572,8 @@ public final class LogicSmith {
         /** The number of the product that tells all of three letters, by their row. */
         private static final int[] ROW_NUMBER = {0, 1, 3, 4, 9, 10, 12, 13};
         private static final int[] POWER = {1, 3, 9, 27, 81, 243};
-        /** The bits p whose product leaves out letter 0, 1, 2: octal digits are products of letters 1 and 2. */
-        private static final int[] LEFT_OUT = {0444444444, 0700700700, 0777000000};
+        /** The bits p whose product leaves out letter 0, 1, 2: the last third of each 3, 9, 27. */
+        private static final int[] LEFT_OUT = {0x4924924, 0x70381C0, 0x7FC0000};
 
         /** Products that hold only at places that are not 0. */
         final int[] fit = new int[WORDS];
@@ -583,8 +585,6 @@ public final class LogicSmith {
             int low = Math.min(f.width, WORD_LETTERS);
             int high = f.width - low;
             wordCount = POWER[high];
-            Arrays.fill(fit, 0, wordCount, 0);
-            Arrays.fill(wider, 0, wordCount, 0);
             for (int s = 0; s < f.sheetCount(); s++) {
                 int q = ROW_NUMBER[s & 7] + WORD_SIZE * ROW_NUMBER[s >> 3];
                 fit[q] = fitWithin(f.notZero(s), low);
@@ -593,7 +593,7 @@ public final class LogicSmith {
                 fitLeavingOut(k);
             }
             for (int q = 0; q < wordCount; q++) {
-                wider[q] |= widerWithin(fit[q], low);
+                wider[q] = widerWithin(fit[q], low);
             }
             for (int k = 0; k < high; k++) {
                 widerLeavingOut(k);
@@ -975,7 +975,7 @@ public final class LogicSmith {
         }
 
         static boolean has(long set, int operand) {
-            return (set & bitOf(operand)) != 0;
+            return (set >> operand - ALWAYS_1 & 1) != 0;
         }
 
         static long bitOf(int operand) {
@@ -1049,7 +1049,7 @@ public final class LogicSmith {
         }
 
         long word(int operand, int w) {
-            return words[start(operand) + w];
+            return words[(operand - ALWAYS_1) * MOST_WORDS + w];
         }
 
         void workOut(Net net) {
@@ -1109,9 +1109,22 @@ public final class LogicSmith {
         /** The operands that are other than they were, somewhere: for the rest, the words here are stale. */
         private long changed = 0;
 
-        /** What is CARED for at a gate, from the worked out values of its net. */
+        /** Turns a gate of a net whose values are worked out. */
+        void turn(Net net, Values values, int g) {
+            int start = Values.start(FIRST_GATE + g);
+            for (int w = 0; w < values.wordCount; w++) {
+                words[start + w] = ~values.word(FIRST_GATE + g, w);
+            }
+            changed = Net.bitOf(FIRST_GATE + g);
+            for (int h = g + 1; h < net.gateCount; h++) {
+                if (Net.has(changed, net.x[h]) || Net.has(changed, net.y[h])) {
+                    workAnew(net, values, h);
+                }
+            }
+        }
+
+        /** What is CARED for at the gate that was turned. */
         int caredFor(Net net, Values values, int g) {
-            turn(net, values, g);
             int care = 0;
             for (int w = 0; w < values.wordCount; w++) {
                 long parted = 0;
@@ -1124,19 +1137,6 @@ public final class LogicSmith {
                 care |= values.comingAt(net, g, w, parted);
             }
             return care;
-        }
-
-        private void turn(Net net, Values values, int g) {
-            int start = Values.start(FIRST_GATE + g);
-            for (int w = 0; w < values.wordCount; w++) {
-                words[start + w] = ~values.word(FIRST_GATE + g, w);
-            }
-            changed = Net.bitOf(FIRST_GATE + g);
-            for (int h = g + 1; h < net.gateCount; h++) {
-                if (Net.has(changed, net.x[h]) || Net.has(changed, net.y[h])) {
-                    workAnew(net, values, h);
-                }
-            }
         }
 
         private void workAnew(Net net, Values values, int h) {

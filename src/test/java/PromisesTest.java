@@ -119,6 +119,7 @@ public final class PromisesTest {
         due("the first that is not there is missing", s.bits(0, 16, -1, 16), MISSING);
         due("up to the end", s.bits(0, 8, 0, 4), 4);
         due("one too many", s.bits(0, 8, -1, 5), ENDED);
+        due("one alone that is not there", s.bits(0, 12, -1, 1), ENDED);
         due("nothing changed", s.places(0, 1), ones);
         due("BAD comes ahead of MISSING", s.bits(0, 16, -1, 33), BAD);
         s.tear(0, 1, 0);
@@ -598,6 +599,14 @@ public final class PromisesTest {
         s.out(1, 3, 9);
         due("another output", s.same(0, 1), 0);
         due("itself", s.same(1, 1), 1);
+        for (int i = 0; i < 6; i++) {
+            s.net(2);
+            s.out(s.count(1) - 1, i, -1);
+            s.net(2);
+            due("output " + i + " told in one only", s.same(2, 3), 0);
+            s.remove(1);
+            s.remove(1);
+        }
         s.net(7);
         due("other letters", s.same(0, 2), 0);
         due("no such net", s.same(0, 3), BAD);
@@ -619,6 +628,9 @@ public final class PromisesTest {
         due("told in one only", s.parts(0, 1), -5);
         s.out(1, 4, -1);
         due("row 128", s.parts(0, 1), 8 * 128 + 4);
+        s.gate(0, 8, 7, 3);
+        s.out(0, 4, 8);
+        due("row 136", s.parts(0, 1), 8 * 136 + 4);
         s.out(0, 5, 6);
         s.out(1, 5, -1);
         due("row 64, a later output", s.parts(0, 1), 8 * 64 + 5);
