@@ -681,7 +681,10 @@ public final class LogicSmith {
      * as bits of a long, sets of rows as bits of an int.
      */
     private static final class Cover {
-        /** A function of 5 letters has at most 32 primes. */
+        /**
+         * A function of 4 letters has at most 13 primes; of 5, at most 3 * 13: with the fifth letter 0, 1, or left
+         * out, what they tell of the others is a prime of what is left of the function (of both halves together).
+         */
         static final int MOST_PRIMES = 40, ROWS = 32;
         private static final long PER_LETTER = 1L << MOST_PRIMES, PER_PRIME = 1L << 50, TOO_DEAR = 1L << 60;
 

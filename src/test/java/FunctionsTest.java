@@ -46,6 +46,18 @@ public final class FunctionsTest {
         }
     }
 
+    /** On this rests that 40 primes are room enough for a function of 5 letters. */
+    private static void mostPrimesOfFourLetters() {
+        LogicSmith s = new LogicSmith();
+        s.function(4);
+        int most = 0;
+        for (int word = 0; word < 65536; word++) {
+            s.bits(0, 0, word, 16);
+            most = Math.max(most, s.primes(0));
+        }
+        DUE.is("most primes of 4 letters", most, 13);
+    }
+
     private static void manyOfFiveLetters() {
         Random random = new Random(7);
         for (int i = 0; i < 400; i++) {
@@ -97,6 +109,7 @@ public final class FunctionsTest {
 
     public static void main(String[] args) {
         allOfThreeLetters();
+        mostPrimesOfFourLetters();
         manyOfFiveLetters();
         hardOnes();
         graphs();
