@@ -48,10 +48,10 @@ public final class FunctionsTest {
 
     /** On this rests that 40 primes are room enough for a function of 5 letters. */
     private static void mostPrimesOfFourLetters() {
-        LogicSmith s = new LogicSmith();
-        s.function(4);
         int most = 0;
         for (int word = 0; word < 65536; word++) {
+            LogicSmith s = new LogicSmith();
+            s.function(4);
             s.bits(0, 0, word, 16);
             most = Math.max(most, s.primes(0));
         }

@@ -157,42 +157,6 @@ public final class RandomRunsTest {
         }
     }
 
-    private int ofReal(String name, int[] a) {
-        switch (name) {
-            case "function": return real.function(a[0]);
-            case "put": return real.put(a[0], a[1], a[2]);
-            case "bits": return real.bits(a[0], a[1], a[2], a[3]);
-            case "tear": return real.tear(a[0], a[1], a[2]);
-            case "at": return real.at(a[0], a[1]);
-            case "places": return real.places(a[0], a[1]);
-            case "take": return real.take(a[0], a[1], a[2]);
-            case "primes": return real.primes(a[0]);
-            case "prime": return real.prime(a[0], a[1]);
-            case "least": return real.least(a[0]);
-            case "summed": return real.summed(a[0]);
-            case "letters": return real.letters();
-            case "graph": return real.graph(a[0], a[1]);
-            case "order": return real.order(a[0]);
-            case "net": return real.net(a[0]);
-            case "gate": return real.gate(a[0], a[1], a[2], a[3]);
-            case "keep": return real.keep(a[0], a[1], a[2]);
-            case "out": return real.out(a[0], a[1], a[2]);
-            case "told": return real.told(a[0], a[1], a[2]);
-            case "output": return real.output(a[0], a[1]);
-            case "value": return real.value(a[0], a[1], a[2]);
-            case "same": return real.same(a[0], a[1]);
-            case "parts": return real.parts(a[0], a[1]);
-            case "comes": return real.comes(a[0], a[1]);
-            case "cared": return real.cared(a[0], a[1]);
-            case "shape": return real.shape(a[0]);
-            case "step": return real.step(a[0], a[1]);
-            case "back": return real.back(a[0]);
-            case "weight": return real.weight(a[0]);
-            case "count": return real.count(a[0]);
-            default: return real.remove(a[0]);
-        }
-    }
-
     private int ofPlain(String name, int[] a) {
         switch (name) {
             case "function": return plain.function(a[0]);
@@ -250,11 +214,8 @@ public final class RandomRunsTest {
                 continue;
             }
             int[] a = arguments(name);
-            StringBuilder text = new StringBuilder(title).append(", call ").append(call).append(": ").append(name);
-            for (int v : a) {
-                text.append(' ').append(v);
-            }
-            due.is(text.toString(), ofReal(name, a), ofPlain(name, a));
+            Call asked = new Call(name, a);
+            due.is(title + ", call " + call + ": " + asked, asked.on(real), ofPlain(name, a));
         }
     }
 
