@@ -432,8 +432,8 @@ public final class FunctionEdgesTest {
     }
 
     private static void theSumFoundLast() {
-        LogicSmith s = sentence("Of the LEAST sum that was found last: prime k (by NUMBERS, rising); BAD: there is none "
-            + "such");
+        LogicSmith s = sentence("Of the LEAST sum that was found last: prime k (by NUMBERS, rising); BAD: there is "
+            + "none such");
         due("before any", s.summed(0), BAD);
         due("before any, below", s.summed(-1), BAD);
         s.function(5);

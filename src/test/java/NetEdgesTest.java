@@ -290,6 +290,34 @@ public final class NetEdgesTest {
         due("though all comes to it", s.comes(0, 6), 15);
     }
 
+    /** An operand that is what x is at one row, and 0 at all others. */
+    private static int atRowAlone(LogicSmith s, int net, int n, int x, int row) {
+        int operand = x;
+        for (int k = 0; k < n; k++) {
+            operand = 8 + s.gate(net, (row >> k & 1) == 1 ? 8 : 2, operand, k);
+        }
+        return operand;
+    }
+
+    private static void oneRowAlone() {
+        for (int n = 1; n <= 8; n++) {
+            for (int row = 0; row < 1 << n; row++) {
+                sentence("at some such row, the told outputs would not all be the same if the gate were turned there");
+                LogicSmith s = ofGates(n, new int[] {0, 0, n - 1}, new int[] {6, 0, 0});
+                s.out(0, row % 6, atRowAlone(s, 0, n, 8, row));
+                due("row " + row + " of " + n, s.cared(0, 0), 1 << (row & 1) + 2 * (row >> n - 1));
+                sentence("The least row at which an output that is told in both nets differs, 8 times, and the output");
+                s = ofGates(n);
+                s.net(n);
+                s.out(0, row % 6, atRowAlone(s, 0, n, -2, row));
+                s.out(1, row % 6, -1);
+                due("row " + row + " of " + n, s.parts(0, 1), 8 * row + row % 6);
+                due("row " + row + " of " + n + ": same", s.same(0, 1), 0);
+                due("row " + row + " of " + n + ": itself", s.same(0, 0), 1);
+            }
+        }
+    }
+
     private static void rulesInOrder() {
         sentence("the first of these is done");
         // Nothing is cared for: all of RULES 0 to 3 hold.
@@ -326,6 +354,46 @@ public final class NetEdgesTest {
             s.out(0, i, 8 + i);
         }
         due("not the same at some rows behind the 63rd", s.shape(0), 0);
+        s = ofGates(8, new int[] {8, 0, 1}, new int[] {6, 6, 7}, new int[] {8, 1, 0});
+        for (int i = 0; i < 3; i++) {
+            s.out(0, i, 8 + i);
+        }
+        due("the same at all 256 rows", s.shape(0), 1);
+        dueStep(s, 0, 2, 4, 8);
+        for (int n = 2; n <= 8; n++) {
+            s = ofGates(n, new int[] {6, n - 1, 0}, new int[] {6, 8, 0});
+            s.out(0, 0, 8);
+            s.out(0, 1, 9);
+            due("the same as the last letter, which is no gate, " + n, s.shape(0), 0);
+        }
+    }
+
+    private static void readInstead() {
+        sentence("whatever reads the gate (gates and outputs) reads -1, -2, x, y, or that gate instead");
+        int[] tables = {0, 15, 10, 12};
+        int[] instead = {-1, -2, 1, 0};
+        for (int rule = 0; rule < 4; rule++) {
+            LogicSmith s = ofGates(2, new int[] {tables[rule], 1, 0});
+            for (int g = 1; g < 40; g++) {
+                s.gate(0, 6, g % 3 == 0 ? 0 : 8, g % 3 == 1 ? 0 : 8);
+                s.keep(0, g, 1);
+            }
+            for (int i = 0; i < 6; i++) {
+                s.out(0, i, 8);
+            }
+            due("one step, rule " + rule, s.shape(0), 1);
+            dueStep(s, 0, 0, rule, instead[rule]);
+            for (int g = 1; g < 40; g++) {
+                due("x of gate " + g, s.told(0, g, 1), g % 3 == 0 ? 0 : instead[rule]);
+                due("y of gate " + g, s.told(0, g, 2), g % 3 == 1 ? 0 : instead[rule]);
+            }
+            for (int i = 0; i < 6; i++) {
+                due("output " + i, s.output(0, i), instead[rule]);
+            }
+            due("it is not READ", s.told(0, 0, 3), 0);
+            due("its table stays", s.told(0, 0, 0), tables[rule]);
+            due("its x and y, too", s.told(0, 0, 1) * 10 + s.told(0, 0, 2), 10);
+        }
     }
 
     private static void readAndKept() {
@@ -431,7 +499,7 @@ public final class NetEdgesTest {
     }
 
     private static LogicSmith shaped() {
-        LogicSmith s = ofGates(2, new int[] {10, 0, 1}, new int[] {6, 8, 1}, new int[] {6, 0, 1});
+        LogicSmith s = ofGates(2, new int[] {10, 0, 1}, new int[] {6, 8, 1}, new int[] {6, 1, 8});
         s.keep(0, 2, 1);
         s.out(0, 0, 8);
         s.out(0, 1, 9);
@@ -442,7 +510,8 @@ public final class NetEdgesTest {
 
     private static void dueBack(String call, LogicSmith s, boolean allowed) {
         due(call, s.back(0), allowed ? 1 : BAD);
-        due(call + ": the gate that reads", s.told(0, 1, 1), allowed ? 8 : 0);
+        due(call + ": the gate that reads it as x", s.told(0, 1, 1), allowed ? 8 : 0);
+        due(call + ": the gate that reads it as y", s.told(0, 2, 2), allowed ? 8 : 0);
         due(call + ": the steps are told on", s.step(0, 1), 2);
         due(call + ": and counted", s.count(2), 1);
         due(call + ": not once more", s.back(0), BAD);
@@ -641,6 +710,25 @@ public final class NetEdgesTest {
         }
     }
 
+    private static void ownMemory() {
+        sentence("All memory is the class's own");
+        LogicSmith s = Scenes.plenty().made();
+        int first = s.summed(0);
+        int letters = s.letters();
+        LogicSmith other = Scenes.full().made();
+        other.least(4);
+        other.shape(1);
+        other.remove(1);
+        due("another's sum has other letters", other.letters() == letters ? 1 : 0, 0);
+        due("the sum found last", s.summed(0), first);
+        due("its letters", s.letters(), letters);
+        due("the steps", s.count(2), 5);
+        due("functions", s.count(0), 7);
+        due("nets", s.count(1), 4);
+        due("what is undone", s.back(0), 5);
+        due("outputs", s.output(0, 0), 13);
+    }
+
     public static void main(String[] args) {
         newNets();
         operandsOfGates();
@@ -651,7 +739,9 @@ public final class NetEdgesTest {
         sameNets();
         partedNets();
         comesAndCared();
+        oneRowAlone();
         rulesInOrder();
+        readInstead();
         readAndKept();
         shapingAtItsEnds();
         steps();
@@ -663,6 +753,7 @@ public final class NetEdgesTest {
         weights();
         counts();
         lastCall();
+        ownMemory();
         DUE.end();
     }
 }
