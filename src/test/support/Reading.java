@@ -1,7 +1,7 @@
 import java.util.ArrayList;
 import java.util.List;
 
-/** All that can be asked of a state, to see whether a call has changed it. */
+/** The whole of a state, by questions (places, gates, outputs, sum, steps), to see whether a call has changed it. */
 final class Reading {
     private final Scene scene;
     private final int functions;
