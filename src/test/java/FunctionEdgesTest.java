@@ -1,3 +1,6 @@
+import java.util.ArrayList;
+import java.util.List;
+
 /** The sentences of the document that name an edge of functions, a test for each; its title tells the sentence. */
 public final class FunctionEdgesTest {
     private static final int LOW = Integer.MIN_VALUE, HIGH = Integer.MAX_VALUE;
@@ -56,6 +59,46 @@ public final class FunctionEdgesTest {
             }
             due("all left out, " + n, s.prime(0, 0), POWER[n] - 1);
             due("and it is the only one", s.primes(0), 1);
+        }
+    }
+
+    private static int toldOf(int number, int letter) {
+        return number / POWER[letter] % 3;
+    }
+
+    private static boolean holds(int number, int n, int row) {
+        for (int k = 0; k < n; k++) {
+            if (toldOf(number, k) != 2 && toldOf(number, k) != (row >> k & 1)) {
+                return false;
+            }
+        }
+        return true;
+    }
+
+    private static void productsHold() {
+        sentence("It HOLDS at the rows that have all letters as it tells");
+        for (int n = 1; n <= 8; n++) {
+            // All products of up to 5 letters, and some of more.
+            for (int number = 0; number < POWER[n]; number += n <= 5 ? 1 : 3 * n + 5) {
+                LogicSmith s = new LogicSmith();
+                s.function(n);
+                for (int row = 0; row < 1 << n; row++) {
+                    if (holds(number, n, row)) {
+                        s.put(0, row, 1 + row % 2);
+                    }
+                }
+                due("product " + number + " of " + n + " is the only prime where it holds", s.primes(0), 1);
+                due("its number", s.prime(0, 0), number);
+                if (n <= 5 && s.places(0, 1) > 0) {
+                    int told = 0;
+                    for (int k = 0; k < n; k++) {
+                        told += toldOf(number, k) == 2 ? 0 : 1;
+                    }
+                    due("product " + number + " of " + n + " is the LEAST sum", s.least(0), 1);
+                    due("its number in the sum", s.summed(0), number);
+                    due("its letters", s.letters(), told);
+                }
+            }
         }
     }
 
@@ -217,6 +260,72 @@ public final class FunctionEdgesTest {
             int fewest = s.graph(0, last[i]);
             for (int order = 0; order < last[i]; order += 2 + i) {
                 due("no fewer nodes in order " + order, s.graph(0, order) > fewest ? 1 : 0, 1);
+            }
+        }
+    }
+
+    /** All rows of n letters from a beginning on, in the order in which the document numbers them. */
+    private static void listOrders(int n, List<Integer> begun, List<List<Integer>> all) {
+        if (begun.size() == n) {
+            all.add(List.copyOf(begun));
+            return;
+        }
+        for (int letter = 0; letter < n; letter++) {
+            if (!begun.contains(letter)) {
+                begun.add(letter);
+                listOrders(n, begun, all);
+                begun.remove(begun.size() - 1);
+            }
+        }
+    }
+
+    /** A function whose only best order falls from the highest letter to 0, its letters named anew. */
+    private static LogicSmith renamed(int n, long word, List<Integer> order) {
+        LogicSmith s = new LogicSmith();
+        s.function(n);
+        long places = 0;
+        for (int row = 0; row < 1 << n; row++) {
+            int newRow = 0;
+            for (int k = 0; k < n; k++) {
+                newRow |= (row >> n - 1 - k & 1) << order.get(k);
+            }
+            places |= (word >>> row & 1) << newRow;
+        }
+        for (int row = 0; row < 1 << n; row += 32) {
+            s.bits(0, row, (int) (places >>> row), Math.min(32, 1 << n));
+        }
+        return s;
+    }
+
+    private static void ordersByNumber() {
+        sentence("ORDERS of n letters (n 1 .. 6) are numbered from 0 on as rows of letters, by the first letter that "
+            + "differs, the lesser one first");
+        long[] words = {0x0655, 0x70700577L, 0x4459445944945959L};
+        for (int n = 4; n <= 6; n++) {
+            List<List<Integer>> all = new ArrayList<>();
+            listOrders(n, new ArrayList<>(), all);
+            int fewest = renamed(n, words[n - 4], all.get(0)).graph(0, 0);
+            for (int i = 0; i < all.size(); i++) {
+                LogicSmith s = renamed(n, words[n - 4], all.get(i));
+                due("the best order is " + all.get(i), s.order(0), i);
+                due("its nodes", s.graph(0, i), fewest);
+                int other = (i + 1 + i % 7) % all.size();
+                due("more nodes in order " + other, s.graph(0, other) > fewest ? 1 : 0, 1);
+            }
+            due("no more orders", renamed(n, 0, all.get(0)).graph(0, all.size()), BAD);
+        }
+        // Letter k chooses between the two others: it stands first in the best orders, the others in either order.
+        for (int k = 0; k < 3; k++) {
+            int lesser = k == 0 ? 1 : 0;
+            int greater = k == 2 ? 1 : 2;
+            LogicSmith s = new LogicSmith();
+            s.function(3);
+            for (int row = 0; row < 8; row++) {
+                s.put(0, row, row >> ((row >> k & 1) == 0 ? lesser : greater) & 1);
+            }
+            due("letter " + k + " chooses", s.order(0), 2 * k);
+            for (int order = 0; order < 6; order++) {
+                due("letter " + k + " in order " + order, s.graph(0, order) == 3 ? 1 : 0, order / 2 == k ? 1 : 0);
             }
         }
     }
@@ -409,6 +518,36 @@ public final class FunctionEdgesTest {
         }
     }
 
+    private static LogicSmith functionAndNet(int n) {
+        LogicSmith s = new LogicSmith();
+        s.function(n);
+        s.net(n);
+        s.gate(0, 6, 0, n - 1);
+        s.gate(0, 11, 8, n / 2);
+        s.gate(0, 4, n - 1, 9);
+        return s;
+    }
+
+    private static void takenAtAllRows() {
+        sentence("A function becomes, at all its rows, what an operand of a net is there");
+        for (int n = 1; n <= 8; n++) {
+            for (int operand : new int[] {-2, -1, 0, n - 1, 8, 9, 10}) {
+                LogicSmith taken = functionAndNet(n);
+                taken.put(0, 0, 2);
+                taken.put(0, (1 << n) - 1, 2);
+                LogicSmith asked = functionAndNet(n);
+                int ones = taken.take(0, 0, operand);
+                int found = 0;
+                for (int row = 0; row < 1 << n; row++) {
+                    int value = asked.value(0, operand, row);
+                    due("operand " + operand + " of " + n + " at row " + row, taken.at(0, row), value);
+                    found += value;
+                }
+                due("operand " + operand + " of " + n + ": how many are 1", ones, found);
+            }
+        }
+    }
+
     private static void primesRising() {
         sentence("The NUMBER of prime k (from 0 on, by NUMBERS, rising)");
         for (int n = 1; n <= 8; n++) {
@@ -491,12 +630,14 @@ public final class FunctionEdgesTest {
     public static void main(String[] args) {
         lettersAndRows();
         numbersOfProducts();
+        productsHold();
         placesThatAreNotThere();
         primesAtTheEdges();
         leastSums();
         sumsOfNothing();
         graphs();
         ordersAtTheEnds();
+        ordersByNumber();
         manyLetters();
         newFunctions();
         puts();
@@ -504,6 +645,7 @@ public final class FunctionEdgesTest {
         tears();
         counts();
         takes();
+        takenAtAllRows();
         primesRising();
         theSumFoundLast();
         lettersOfTheSum();

@@ -1,3 +1,5 @@
+import java.util.Random;
+
 /** The sentences of the document that name an edge of nets, a test for each; its title tells the sentence. */
 public final class NetEdgesTest {
     private static final int LOW = Integer.MIN_VALUE, HIGH = Integer.MAX_VALUE;
@@ -306,6 +308,13 @@ public final class NetEdgesTest {
                 LogicSmith s = ofGates(n, new int[] {0, 0, n - 1}, new int[] {6, 0, 0});
                 s.out(0, row % 6, atRowAlone(s, 0, n, 8, row));
                 due("row " + row + " of " + n, s.cared(0, 0), 1 << (row & 1) + 2 * (row >> n - 1));
+                sentence("a bit for each x + 2 y that its operands are at some row of letters");
+                s = ofGates(n);
+                int alone = atRowAlone(s, 0, n, -2, row);
+                due("1 at row " + row + " alone of " + n, s.comes(0, s.gate(0, 6, alone, -1)), 3);
+                due("as y", s.comes(0, s.gate(0, 6, -2, alone)), 10);
+                int allBut = 8 + s.gate(0, 5, alone, -1);
+                due("0 at row " + row + " alone of " + n, s.comes(0, s.gate(0, 6, allBut, -1)), 3);
                 sentence("The least row at which an output that is told in both nets differs, 8 times, and the output");
                 s = ofGates(n);
                 s.net(n);
@@ -368,6 +377,70 @@ public final class NetEdgesTest {
         }
     }
 
+    private static void twinsAtAllRows() {
+        sentence("4: a gate ahead of it (the first such) is the same as it at all rows");
+        for (int n = 2; n <= 8; n++) {
+            for (int row = 0; row < 1 << n; row++) {
+                LogicSmith s = ofGates(n, new int[] {6, 0, n - 1});
+                int alone = atRowAlone(s, 0, n, -2, row);
+                int other = s.gate(0, 6, 8, alone);
+                int twin = s.gate(0, 6, alone, 8);
+                for (int g = 0; g < other; g++) {
+                    s.keep(0, g, 1);
+                }
+                s.out(0, 0, 8);
+                s.out(0, 1, 8 + other);
+                due("other at row " + row + " of " + n + " alone", s.shape(0), 0);
+                s.out(0, 2, 8 + twin);
+                due("the same at all rows of " + n, s.shape(0), 1);
+                dueStep(s, 0, twin, 4, 8 + other);
+            }
+        }
+    }
+
+    /** The first of RULES 0 to 3 that a table keeps to at the bits that are cared for, or -1. */
+    private static int ruleAt(int table, int care) {
+        String[] rules = {"0000", "1111", "0101", "0011"};
+        for (int rule = 0; rule < 4; rule++) {
+            boolean holds = true;
+            for (int bit = 0; bit < 4; bit++) {
+                boolean cared = (care >> bit & 1) == 1;
+                holds &= !cared || (table >> bit & 1) == rules[rule].charAt(bit) - '0';
+            }
+            if (holds) {
+                return rule;
+            }
+        }
+        return -1;
+    }
+
+    /** Gate 1 has any table, and is cared for where gate 0, which has any table, too, is 1. */
+    private static void rulesAtWhatIsCaredFor() {
+        sentence("0: its table has 0 at all bits that are CARED for; 1: it has 1 there; 2: it has there what x has "
+            + "(bits 1 and 3 set, 0 and 2 not); 3: what y has (bits 2 and 3 set, 0 and 1 not)");
+        for (int[] letters : new int[][] {{2, 0, 1}, {8, 7, 6}, {7, 0, 6}}) {
+            for (int code = 0; code < 256; code++) {
+                int table = code & 15;
+                int care = code >> 4;
+                int x = letters[1];
+                int y = letters[2];
+                LogicSmith s = ofGates(letters[0], new int[] {care, x, y}, new int[] {table, x, y});
+                s.gate(0, 8, 9, 8);
+                s.keep(0, 0, 1);
+                s.keep(0, 2, 1);
+                s.out(0, 3, 10);
+                String call = "table " + table + ", cared for at " + care + ", " + letters[0] + " letters";
+                due(call, s.cared(0, 1), care);
+                int rule = ruleAt(table, care);
+                boolean twin = rule < 0 && table == care;
+                due(call + ": steps", s.shape(0), rule >= 0 || twin ? 1 : 0);
+                if (rule >= 0 || twin) {
+                    dueStep(s, 0, 1, twin ? 4 : rule, twin ? 8 : new int[] {-1, -2, x, y}[rule]);
+                }
+            }
+        }
+    }
+
     private static void readInstead() {
         sentence("whatever reads the gate (gates and outputs) reads -1, -2, x, y, or that gate instead");
         int[] tables = {0, 15, 10, 12};
@@ -394,6 +467,132 @@ public final class NetEdgesTest {
             due("its table stays", s.told(0, 0, 0), tables[rule]);
             due("its x and y, too", s.told(0, 0, 1) * 10 + s.told(0, 0, 2), 10);
         }
+    }
+
+    private static void readTheTwinInstead() {
+        sentence("whatever reads the gate (gates and outputs) reads .. that gate instead");
+        LogicSmith s = ofGates(2, new int[] {6, 0, 1}, new int[] {6, 1, 0});
+        for (int g = 2; g < 40; g++) {
+            s.gate(0, 6, g % 3 == 0 ? 0 : 9, g % 3 == 1 ? 0 : 9);
+            s.keep(0, g, 1);
+        }
+        for (int i = 0; i < 6; i++) {
+            s.out(0, i, 9);
+        }
+        due("gate 0 is not READ", s.told(0, 0, 3), 0);
+        due("one step", s.shape(0), 1);
+        dueStep(s, 0, 1, 4, 8);
+        for (int g = 2; g < 40; g++) {
+            due("x of gate " + g, s.told(0, g, 1), g % 3 == 0 ? 0 : 8);
+            due("y of gate " + g, s.told(0, g, 2), g % 3 == 1 ? 0 : 8);
+        }
+        for (int i = 0; i < 6; i++) {
+            due("output " + i, s.output(0, i), 8);
+        }
+        due("gate 0 is READ", s.told(0, 0, 3), 1);
+        due("gate 1 is not", s.told(0, 1, 3), 0);
+    }
+
+    private static int anyOperand(Random random, int n, int gates) {
+        int pick = random.nextInt(n + 2 * gates + 1);
+        return pick < n ? pick : pick == n + 2 * gates ? -1 - random.nextInt(2) : 8 + (pick - n) / 2;
+    }
+
+    /** Nets 0 and 1, which are the same: gates that read near ones often, some KEPT, some outputs. */
+    private static LogicSmith twoAlike(Random random, int n, int gates) {
+        LogicSmith s = new LogicSmith();
+        s.net(n);
+        s.net(n);
+        for (int g = 0; g < gates; g++) {
+            int table = random.nextInt(16);
+            int x = anyOperand(random, n, g);
+            int y = anyOperand(random, n, g);
+            int kept = random.nextInt(8) == 0 ? 1 : 0;
+            for (int net = 0; net < 2; net++) {
+                s.gate(net, table, x, y);
+                s.keep(net, g, kept);
+            }
+        }
+        for (int i = 0; i < 6; i++) {
+            int operand = random.nextInt(3) == 0 ? -3 : anyOperand(random, n, gates);
+            s.out(0, i, operand);
+            s.out(1, i, operand);
+        }
+        return s;
+    }
+
+    private static void neverOther() {
+        sentence("shaped smaller step by step, never other than they were");
+        Random random = new Random(10);
+        int steps = 0;
+        for (int i = 0; i < 400; i++) {
+            int n = 1 + i % 8;
+            int gates = random.nextInt(41);
+            LogicSmith s = twoAlike(random, n, gates);
+            due("net " + i + " is as it was made twice", s.same(0, 1), 1);
+            steps += s.shape(0);
+            due("net " + i + " shaped is not other", s.same(0, 1), 1);
+            due("net " + i + " shaped is parted nowhere", s.parts(0, 1), -5);
+            due("net " + i + " shaped once more", s.shape(0), 0);
+            for (int g = 0; g < gates; g++) {
+                due("the TABLE of gate " + g + " of net " + i, s.told(0, g, 0), s.told(1, g, 0));
+                due("KEPT of gate " + g + " of net " + i, s.told(0, g, 4), s.told(1, g, 4));
+            }
+        }
+        due("steps were done", steps > 2000 ? 1 : 0, 1);
+    }
+
+    /** The STEPS that are told, done by hand to the net as it was ahead of them, make it what it is told behind. */
+    private static void stepsDoneByHand() {
+        sentence("Of STEP i .. 0 the gate, 1 the RULE, 2 the operand that is read instead");
+        Random random = new Random(28);
+        for (int i = 0; i < 200; i++) {
+            int gates = random.nextInt(25);
+            LogicSmith s = twoAlike(random, 1 + i % 8, gates);
+            int[] x = new int[gates];
+            int[] y = new int[gates];
+            int[] out = new int[6];
+            for (int g = 0; g < gates; g++) {
+                x[g] = s.told(0, g, 1);
+                y[g] = s.told(0, g, 2);
+            }
+            for (int k = 0; k < 6; k++) {
+                out[k] = s.output(0, k);
+            }
+            int steps = s.shape(0);
+            for (int k = 0; k < steps; k++) {
+                doStep("step " + k + " of net " + i, s, k, x, y, out);
+            }
+            for (int g = 0; g < gates; g++) {
+                due("x of gate " + g + " of net " + i, s.told(0, g, 1), x[g]);
+                due("y of gate " + g + " of net " + i, s.told(0, g, 2), y[g]);
+            }
+            for (int k = 0; k < 6; k++) {
+                due("output " + k + " of net " + i, s.output(0, k), out[k]);
+            }
+        }
+    }
+
+    private static void doStep(String call, LogicSmith s, int step, int[] x, int[] y, int[] out) {
+        int g = s.step(step, 0);
+        int rule = s.step(step, 1);
+        int instead = s.step(step, 2);
+        due(call + ": not KEPT", s.told(0, g, 4), 0);
+        if (rule < 4) {
+            due(call + ": the operand of rule " + rule, instead, new int[] {-1, -2, x[g], y[g]}[rule]);
+        } else {
+            due(call + ": a gate ahead of it", instead >= 8 && instead < 8 + g ? 1 : 0, 1);
+        }
+        int readers = 0;
+        for (int[] row : new int[][] {x, y, out}) {
+            for (int i = 0; i < row.length; i++) {
+                if (row[i] == 8 + g) {
+                    row[i] = instead;
+                    readers++;
+                }
+            }
+        }
+        due(call + ": READ", readers > 0 ? 1 : 0, 1);
     }
 
     private static void readAndKept() {
@@ -741,7 +940,12 @@ public final class NetEdgesTest {
         comesAndCared();
         oneRowAlone();
         rulesInOrder();
+        twinsAtAllRows();
+        rulesAtWhatIsCaredFor();
         readInstead();
+        readTheTwinInstead();
+        neverOther();
+        stepsDoneByHand();
         readAndKept();
         shapingAtItsEnds();
         steps();
