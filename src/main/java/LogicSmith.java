@@ -848,6 +848,8 @@ public final class LogicSmith {
         /** How many orders n letters have. */
         static final int[] WAYS = {1, 1, 2, 6, 24, 120, 720};
         private static final int SETS = 64;
+        /** More NODES than a graph of six letters can have, which are 1 + 2 + 4 + 8 + 16 + 32 at most. */
+        private static final int TOO_MANY = 64;
 
         private final long[] seen = new long[SETS];
         private final int[] fewest = new int[SETS];
@@ -884,7 +886,7 @@ public final class LogicSmith {
         }
 
         private void chooseLetter(long ones, int n, int told) {
-            fewest[told] = Integer.MAX_VALUE;
+            fewest[told] = TOO_MANY;
             for (int letter = 0; letter < n; letter++) {
                 if ((told >> letter & 1) == 0) {
                     int nodes = nodesOf(ones, n, told, letter) + fewest[told | 1 << letter];

@@ -29,7 +29,7 @@ public final class LanguageTest {
 
     private static final String CONSTANTS = "BAD -1, MANY -2, FULL -3, MISSING -11, ENDED -12";
     private static final Set<String> LIBRARY = Set.of("Arrays.fill", "Math.min", "Math.max", "Integer.bitCount",
-        "Integer.MAX_VALUE", "Long.bitCount", "System.arraycopy");
+        "Long.bitCount", "System.arraycopy");
     /** The room that all calls of a run share, if each of them makes an object. */
     private static final int MOST_OBJECTS = 600_000 / 512, MOST_ELEMENTS = 7_300_000 / 512;
 
